@@ -409,6 +409,10 @@ public final class ThanksOwed {
         return holds ? 1 : 0;
     }
 
+    private static boolean isAmong(int number, int bits) {
+        return ((bits >> number) & 1) == 1;
+    }
+
     private static int pairOf(int from, int to) {
         return from * MOST_PEOPLE + to;
     }
@@ -709,7 +713,7 @@ public final class ThanksOwed {
         int sizeOf(int bits) {
             int sum = 0;
             for (int number = 0; number < count; number++) {
-                if ((bits >> number & 1) == 1) {
+                if (isAmong(number, bits)) {
                     sum += sizes[number];
                 }
             }
@@ -719,7 +723,7 @@ public final class ThanksOwed {
         int sizeFrom(int giver, int bits) {
             int sum = 0;
             for (int number = 0; number < count; number++) {
-                if ((bits >> number & 1) == 1 && from[number] == giver) {
+                if (isAmong(number, bits) && from[number] == giver) {
                     sum += sizes[number];
                 }
             }
@@ -734,8 +738,8 @@ public final class ThanksOwed {
             if (choices < 1) {
                 return 0;
             }
-            seed = (int) (1103515245L * seed + 12345L & 0x7FFFFFFFL);
-            return seed / 65536 % choices;
+            seed = (int) ((1103515245L * seed + 12345L) & 0x7FFFFFFFL);
+            return (seed / 65536) % choices;
         }
     }
 
@@ -810,7 +814,7 @@ public final class ThanksOwed {
             int all = 1 << town.people;
             for (int group = 1; group < all; group++) {
                 int last = Integer.numberOfTrailingZeros(group);
-                sums[group] = sums[group & group - 1] + town.owedBy(last) - town.owedTo(last);
+                sums[group] = sums[group & (group - 1)] + town.owedBy(last) - town.owedTo(last);
                 evenGroups[group] = mostWithoutOne(group, town.people) + oneIf(sums[group] == 0);
             }
             return town.people - evenGroups[all - 1];
@@ -819,8 +823,8 @@ public final class ThanksOwed {
         private int mostWithoutOne(int group, int people) {
             int most = 0;
             for (int person = 0; person < people; person++) {
-                if ((group >> person & 1) == 1) {
-                    most = Math.max(most, evenGroups[group ^ 1 << person]);
+                if (isAmong(person, group)) {
+                    most = Math.max(most, evenGroups[group ^ (1 << person)]);
                 }
             }
             return most;

@@ -139,6 +139,11 @@ public final class PeopleTest {
         check.due("b is not OFFENDED", x.between(1, 0, 2), 0);
         check.due("a saint is grunted at", x.favour(2, 1, 50, false), 0);
         check.due("a saint is never OFFENDED", x.between(2, 1, 2), 0);
+        ThanksOwed others = check.town("1u06", 0, CHILD, WIDOW);
+        check.due("a child is grunted at", others.favour(0, 1, 5, false), 0);
+        check.due("a child is OFFENDED", others.between(0, 1, 2), 6);
+        check.due("a widow is grunted at", others.favour(1, 0, 5, false), 0);
+        check.due("a widow is OFFENDED", others.between(1, 0, 2), 6);
         check.due("a grunter is grunted at", x.favour(3, 1, 50, false), 0);
         check.due("a grunter is OFFENDED", x.between(3, 1, 2), 3);
         check.due("a grunt makes nothing FREE", x.between(1, 3, 1), 0);
@@ -368,5 +373,11 @@ public final class PeopleTest {
         check.due("nothing to share", z.bankrupt(0), 0);
         check.due("OWES nothing then", z.about(0, 2), 0);
         check.due("STATE then", z.bankrupt(0), ThanksOwed.STATE);
+        ThanksOwed v = check.town("1u00", 7, PERSON, PERSON, PERSON, PERSON, PERSON);
+        check.owe(v, 4, 0, 1);
+        check.due("who OWES 1 alone", v.bankrupt(4), 1);
+        check.due("the first got it", v.about(0, 1), 8);
+        check.due("left", v.about(4, 1), 6);
+        check.due("OWES nothing then", v.about(4, 2), 0);
     }
 }

@@ -48,6 +48,8 @@ public final class ToldTest {
         check.due("restore()", x.restore(), 1);
         check.due("all is as it was", x.digest(), before);
         check.due("the offer is as it was", x.accept(0, 5, 0, 0), 1);
+        check.due("of the same size", x.accept(0, 5, 0, 1), 9 + 5);
+        check.due("by the same one, a widow", x.accept(0, 5, 4, 1), 14 + 5);
         check.law(x, "9u99");
         check.write(x, "4u");
         x.week();

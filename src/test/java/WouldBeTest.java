@@ -68,6 +68,8 @@ public final class WouldBeTest {
     private static void promise18Settling() {
         ThanksOwed x = new ThanksOwed();
         check.due("with nobody", x.settling(), 0);
+        x.person(PERSON, 5);
+        check.due("with one alone", x.settling(), 0);
         x = check.town("1u00", 0, PERSON, PERSON, PERSON, PERSON, PERSON);
         check.due("with nothing OWED", x.settling(), 0);
         check.owe(x, 0, 1, 10);
@@ -128,6 +130,8 @@ public final class WouldBeTest {
         best(x, 20, 1, 2, 4, 3);
         check.due("what takes off less", x.setOff(2, 4), 5);
         best(x, 6, 0, 1);
+        check.due("the last one is set off", x.setOff(1, 0), 3);
+        best(x, 0);
     }
 
     private static void promise19BestRingOfLikeOnes() {
@@ -279,12 +283,18 @@ public final class WouldBeTest {
         // The 10 would be 73 by then; with thanks for 10 more they are FREE for five weeks, as the 25 are.
         accepted(y, 0, 25, 6, 1 | 2, 30 + 37);
         accepted(y, 2, 1, 20, 4, 20);
+        y.forget();
+        y.offer(1, 0, 1);
+        accepted(y, 0, 1, 5, 1, 11);
         ThanksOwed z = check.town("1u00", 0, PERSON, PERSON, PERSON);
         check.owe(z, 0, 1, 9990);
         z.offer(1, 0, 99);
         z.offer(2, 0, 50);
         accepted(z, 0, 50, 0, 1, 9999);
         accepted(z, 0, 149, 0, 3, 10049);
+        ThanksOwed five = check.town("1u00", 0, PERSON, PERSON, PERSON, PERSON, PERSON);
+        five.offer(0, 4, 9);
+        accepted(five, 4, 9, 1, 1, 10);
     }
 
     private static void promise22AcceptOutside() {
