@@ -212,6 +212,16 @@ public final class EdgeChoiceTest {
         accepts(x, 0, 10, 3, 1, 22);
     }
 
+    @Sentence(promise = 22, words = "also what he owed him before")
+    static void acceptedLeastSizeMakesAllFree() {
+        ThanksOwed x = edge.town("1u00", 0, PERSON, PERSON, PERSON);
+        edge.owe(x, 2, 0, 10);
+        edge.law(x, "1u20");
+        x.offer(0, 2, 1);
+        accepts(x, 2, 1, 2, 1, 11);
+        accepts(x, 2, 1, 3, 1, 13);
+    }
+
     @Sentence(promise = 22, words = "does not grow for FREE WEEKS from then on")
     static void acceptedFromAnotherLeavesItGrowing() {
         ThanksOwed x = edge.town("1u00", 0, PERSON, PERSON, PERSON);
@@ -501,6 +511,23 @@ public final class EdgeChoiceTest {
         edge.due("three DRAWS", x.years(1, seed, 2), seedBehind(seed, 3));
         x.week();
         edge.due("OFFENDED no more", x.years(1, seed, 2), seedBehind(seed, 4));
+    }
+
+    @Sentence(promise = 24, words = "else he GRUNTS")
+    static void gruntsOffendInYears() {
+        ThanksOwed y = edge.town("0u03", 0, PERSON, PERSON);
+        int twice = 0;
+        while (drawn(twice, 1, 2) != 0 || drawn(twice, 2, 2) != 1 || drawn(twice, 4, 2) != 0
+                || drawn(twice, 5, 2) != 0 || drawn(twice, 6, 2) != 1 || drawn(twice, 8, 2) != 1) {
+            twice++;
+        }
+        edge.due("four DRAWS, then three, as 0 is OFFENDED", y.years(2, twice, 2), seedBehind(twice, 7));
+        edge.due("and no thanks", y.years(2, twice, 0), 0);
+        ThanksOwed z = edge.town("0u01", 0, PERSON, PERSON);
+        edge.due("four each, as 0 is OFFENDED no more", z.years(2, twice, 2), seedBehind(twice, 8));
+        edge.due("and thanks", z.years(2, twice, 0), drawn(twice, 7, 9) + 1);
+        ThanksOwed saint = edge.town("0u03", 0, SAINT, PERSON);
+        edge.due("four each, as a saint is never OFFENDED", saint.years(2, twice, 2), seedBehind(twice, 8));
     }
 
     @Sentence(promise = 24, words = "then a WEEK goes by")

@@ -51,14 +51,14 @@ public final class EdgeDebtTest {
         grows("9d00", PERSON, PERSON, 1, 0);
     }
 
-    @Sentence(promise = 11, words = "By how much all that is OWED GROWS together")
+    @Sentence(promise = 11, words = "by how much all that is OWED GROWS together")
     static void nothingOwedDoesNotGrow() {
         ThanksOwed x = edge.town("9u00", 50, PERSON, WIDOW, PERSON);
         edge.due("week()", x.week(), 0);
         edge.due("count(8)", x.count(8), 0);
     }
 
-    @Sentence(promise = 11, words = "By how much all that is OWED GROWS together")
+    @Sentence(promise = 11, words = "by how much all that is OWED GROWS together")
     static void weekOfNobody() {
         ThanksOwed x = new ThanksOwed();
         edge.due("week()", x.week(), 0);
@@ -516,6 +516,23 @@ public final class EdgeDebtTest {
     static void whoIsNotOwedGetsNothing() {
         shares(9, new int[] {0, 5, 0, 0}, new int[] {0, 5, 0, 0});
         shares(4, new int[] {5, 0, 0, 5}, new int[] {2, 0, 0, 2});
+    }
+
+    @Sentence(promise = 16, words = "each whom he OWES gets")
+    static void lastOneOwesTheFirst() {
+        ThanksOwed x = edge.town("1u00", 7, PERSON, PERSON, PERSON, PERSON, PERSON);
+        edge.owe(x, 4, 0, 5);
+        edge.due("bankrupt(4)", x.bankrupt(4), 5);
+        edge.due("WEALTH of 0", x.about(0, 1), 12);
+        edge.due("WEALTH of 4", x.about(4, 1), 2);
+        edge.due("what 4 OWES", x.about(4, 2), 0);
+    }
+
+    @Sentence(promise = 16, words = "STATE: he OWES nothing")
+    static void bankruptOfOneWhoOwesTheLeast() {
+        shares(5, new int[] {1}, new int[] {1});
+        shares(1, new int[] {1}, new int[] {1});
+        shares(0, new int[] {1}, new int[] {0});
     }
 
     private static ThanksOwed owingARichOne(int wealth) {

@@ -249,6 +249,23 @@ public final class EdgeWouldBeTest {
     }
 
     @Sentence(promise = 19, words = "of two to four unlike PEOPLE")
+    static void nobodyIsTwiceInARing() {
+        // 0, 1, 2, 1 is a way round, of four debts of 5, but not of unlike people.
+        best(withRings(new int[] {5, 0, 1}, new int[] {5, 1, 2}), 10, 0, 1);
+        best(withRings(new int[] {5, 1, 2}, new int[] {4, 2, 3}, new int[] {4, 3, 4}), 10, 1, 2);
+    }
+
+    @Sentence(promise = 19, words = "how much is taken off together (0: none), 1 how many PEOPLE (0: none)")
+    static void noRingAnyMore() {
+        ThanksOwed x = withRings(new int[] {5, 0, 1}, new int[] {4, 1, 2, 3, 4});
+        best(x, 16, 1, 2, 3, 4);
+        edge.due("forgive(4, 3)", x.forgive(4, 3), 4);
+        best(x, 10, 0, 1);
+        edge.due("setOff(0, 1)", x.setOff(0, 1), 5);
+        best(x, 0);
+    }
+
+    @Sentence(promise = 19, words = "of two to four unlike PEOPLE")
     static void noRingOfFive() {
         best(withRings(new int[] {9, 0, 1, 2, 3, 4}), 0);
         // 2 and 4 OWE each other 1: that is in rings of two, three (with 3) and four (with 0 and 1).
