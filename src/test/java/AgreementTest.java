@@ -7,7 +7,8 @@ import java.util.Random;
 /** Long runs of drawn calls, most of them lawful, each answered alike by the class and by the model. */
 public final class AgreementTest {
     private static final int RUNS = 400;
-    private static final int CALLS = 512;
+    /** With a digest() behind every 64th these are 511; an object is promised for 512. */
+    private static final int CALLS = 504;
     private static final String[] NAMES = {
         "letter", "blank", "fault", "law", "person", "about", "as", "between", "favour", "week", "pay", "setOff", "ring",
         "forgive", "bankrupt", "ruin", "settling", "bestRing", "offer", "forget", "accept", "grown", "years", "image",

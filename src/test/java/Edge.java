@@ -108,26 +108,36 @@ final class Edge {
     private static List<String> shown(ThanksOwed x) {
         List<String> lines = new ArrayList<>();
         showAll("now", lines, x);
-        lines.add("law() now: " + x.law());
-        lines.add("count(10) now: " + x.count(10));
+        fillUp("now", lines, x);
         lines.add("restore(): " + x.restore());
         showAll("restored", lines, x);
-        lines.add("person(0, 3): " + x.person(0, 3));
-        showAll("with one more", lines, x);
+        fillUp("restored", lines, x);
+        lines.add("law(): " + x.law());
         return lines;
+    }
+
+    /** With five people, something wrong between two who had not come yet is shown, too. */
+    private static void fillUp(String when, List<String> lines, ThanksOwed x) {
+        for (int people = x.count(4); people < 5; people++) {
+            lines.add("person(0, 3) " + when + ": " + x.person(PERSON, 3));
+        }
+        showAll(when + " with five", lines, x);
     }
 
     private static void showAll(String when, List<String> lines, ThanksOwed x) {
         lines.add("digest() " + when + ": " + x.digest());
         lines.add("fault() " + when + ": " + x.fault());
         for (int person = 0; person < x.count(4); person++) {
-            for (int need = 1; need <= 61; need += 15) {
+            for (int need = 1; need <= 61; need += 20) {
                 lines.add("accept(" + person + ", " + need + ", 0, 0) " + when + ": " + x.accept(person, need, 0, 0));
                 lines.add("accept(" + person + ", " + need + ", 6, 1) " + when + ": " + x.accept(person, need, 6, 1));
             }
         }
-        lines.add("years(9, 5, 0) " + when + ": " + x.years(9, 5, 0));
-        lines.add("years(9, 5, 2) " + when + ": " + x.years(9, 5, 2));
+        // Nobody's years are refused: asked here, they would change both objects alike if they changed any.
+        if (x.count(4) > 0) {
+            lines.add("years(9, 5, 0) " + when + ": " + x.years(9, 5, 0));
+            lines.add("years(9, 5, 2) " + when + ": " + x.years(9, 5, 2));
+        }
         lines.add("grown(9999, 12, 0, 2, 0) " + when + ": " + x.grown(9999, 12, 0, 2, 0));
     }
 
@@ -182,7 +192,19 @@ final class Edge {
         return x;
     }
 
-    /** The same with a fifth person, a SAINT, with six offers and six letters: no room for more of any. */
+    /** As much as there can be with nobody: a law, weeks, letters, and an image that is not what is now. */
+    ThanksOwed nobody() {
+        ThanksOwed x = new ThanksOwed();
+        law(x, "3d12");
+        x.week();
+        x.image();
+        law(x, "4u21");
+        x.week();
+        write(x, "9d0");
+        return x;
+    }
+
+    /** The rich one with a fifth person, a SAINT, with six offers and six letters: no room for more of any. */
     ThanksOwed full() {
         ThanksOwed x = rich();
         x.person(SAINT, 99);

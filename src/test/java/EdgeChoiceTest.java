@@ -377,6 +377,7 @@ public final class EdgeChoiceTest {
         for (int n = 0; n <= 2; n++) {
             int what = n;
             edge.refuses(ThanksOwed::new, "years(1, 0, " + n + ")", x -> x.years(1, 0, what), STATE);
+            edge.refuses(edge::nobody, "years(60, 5, " + n + ")", x -> x.years(60, 5, what), STATE);
         }
         ThanksOwed x = new ThanksOwed();
         x.image();

@@ -11,7 +11,7 @@ import java.util.List;
 public final class RefusalTest {
     private static final int MIN = Integer.MIN_VALUE, MAX = Integer.MAX_VALUE;
     /** An object is promised for 512 calls: the making and the comparing need some of them. */
-    private static final int MOST_ASKED = 240;
+    private static final int MOST_ASKED = 200;
     private static final Edge edge = new Edge();
 
     private static final Object[][] RICH = {
@@ -19,13 +19,19 @@ public final class RefusalTest {
         {"person", 0, 40}, {"person", 2, 30}, {"person", 1, 20}, {"person", 3, 10},
         {"favour", 1, 0, 30, true}, {"favour", 0, 2, 12, true}, {"favour", 2, 1, 9, true}, {"favour", 0, 1, 20, true},
         {"favour", 0, 3, 5, false}, {"offer", 1, 0, 7}, {"week"},
-        {"favour", 2, 0, 15, true}, {"favour", 2, 3, 5, false}, {"offer", 2, 0, 8}, {"letter", '7'}, {"letter", 'x'}};
+        {"favour", 2, 0, 15, true}, {"favour", 2, 3, 5, false}, {"offer", 2, 0, 8}, {"offer", 0, 1, 9},
+        {"letter", '7'}, {"letter", 'x'}};
     private static final Object[][] IMAGE = {
-        {"image"}, {"week"}, {"pay", 0, 1, 3}, {"favour", 1, 2, 15, true}, {"offer", 0, 1, 9}};
+        {"image"}, {"week"}, {"pay", 0, 1, 3}, {"favour", 1, 2, 15, true}, {"forget"}, {"offer", 0, 1, 4},
+        {"offer", 2, 1, 9}, {"offer", 1, 0, 3}};
     private static final Object[][] FULL = {
         {"person", 4, 99}, {"offer", 4, 0, 50}, {"offer", 3, 2, 9}, {"offer", 2, 3, 8}, {"letter", '0'}, {"letter", '0'},
         {"letter", '0'}, {"letter", '0'}};
-    private static final Object[][][] STATES = {{}, RICH, join(RICH, IMAGE), join(join(RICH, IMAGE), FULL)};
+    private static final Object[][] NOBODY = {
+        {"letter", '3'}, {"letter", 'd'}, {"letter", '1'}, {"letter", '2'}, {"law"}, {"week"}, {"image"}, {"week"},
+        {"letter", '9'}, {"letter", 'd'}, {"letter", '0'}};
+    private static final Object[][][] STATES = {
+        {}, NOBODY, RICH, join(RICH, FULL), join(RICH, IMAGE), join(join(RICH, IMAGE), FULL)};
 
     private static final int[] PEOPLE = {MIN, -1, 0, 1, 2, 3, 4, 5, MAX};
     private static final int[] SIZES = {MIN, 0, 1, 99, 100, MAX};

@@ -377,27 +377,25 @@ public final class WouldBeTest {
         check.due("and 180 in 60", alone.years(60, 2147483647, 2), seedAfter(2147483647, 180));
         check.due("and OWES nothing", alone.years(60, 5, 0), 0);
         check.due("and is not RUINED", alone.years(60, 5, 1), 0);
-        ThanksOwed x = check.town("3u11", 2, PERSON, WIDOW, CHILD, PERSON);
-        x.favour(0, 1, 5, false);
-        check.owe(x, 3, 1, 7);
-        long before = x.digest();
         for (int seed = 0; seed < 40; seed++) {
+            ThanksOwed x = check.town("3u11", 2, PERSON, WIDOW, CHILD, PERSON);
+            x.favour(0, 1, 5, false);
+            check.owe(x, 3, 1, 7);
             lived(x, 12, seed);
         }
-        check.due("nothing has changed", x.digest(), before);
     }
 
     private static void promise24YearsByKinds() {
-        ThanksOwed x = check.town("2d09", 2, SAINT, GRUNTER, PERSON);
         for (int seed = 1; seed < 40; seed++) {
-            lived(x, 30, seed * 1000003);
+            lived(check.town("2d09", 2, SAINT, GRUNTER, PERSON), 30, seed * 1000003);
         }
     }
 
-    /** The same weeks lived by the calls themselves, from an image that is restored. */
+    /** The same weeks lived by the calls themselves; a new object each time, as one is promised for 512 calls alone. */
     private static void lived(ThanksOwed x, int weeks, int firstSeed) {
+        long before = x.digest();
         int[] told = {x.years(weeks, firstSeed, 0), x.years(weeks, firstSeed, 1), x.years(weeks, firstSeed, 2)};
-        x.image();
+        check.due("nothing has changed", x.digest(), before);
         int people = x.count(4);
         int seed = firstSeed;
         for (int week = 0; week < weeks; week++) {
@@ -420,7 +418,6 @@ public final class WouldBeTest {
         check.due("years(" + weeks + ", " + firstSeed + ", 0)", told[0], x.count(8));
         check.due("years(" + weeks + ", " + firstSeed + ", 1)", told[1], x.count(5));
         check.due("years(" + weeks + ", " + firstSeed + ", 2)", told[2], seed);
-        x.restore();
     }
 
     private static void promise24YearsOutside() {
