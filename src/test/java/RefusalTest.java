@@ -36,8 +36,7 @@ public final class RefusalTest {
     private static final int[] PEOPLE = {MIN, -1, 0, 1, 2, 3, 4, 5, MAX};
     private static final int[] SIZES = {MIN, 0, 1, 99, 100, MAX};
     private static final int[] KINDS = {MIN, -1, 0, 4, 5, MAX};
-    private static final int[] BITS = {MIN, -1, 0, 1, 2, MAX};
-    private static final int[] TWO = {0, 1};
+    private static final int[] NO_AND_YES = {0, 1};
 
     public static void main(String[] args) {
         edge.run(RefusalTest.class);
@@ -155,7 +154,7 @@ public final class RefusalTest {
 
     @Sentence(promise = 10, words = "they change nothing")
     static void favour() {
-        asked("favour", PEOPLE, PEOPLE, SIZES, TWO);
+        asked("favour", PEOPLE, PEOPLE, SIZES, NO_AND_YES);
     }
 
     @Sentence(promise = 12, words = "they change nothing")
@@ -200,18 +199,23 @@ public final class RefusalTest {
 
     @Sentence(promise = 22, words = "they change nothing")
     static void accept() {
-        asked("accept", PEOPLE, new int[] {MIN, 0, 1, 500, 501, MAX}, new int[] {MIN, -1, 0, 20, 21, MAX}, BITS);
+        int[] needs = {MIN, 0, 1, 500, 501, MAX};
+        int[] weeks = {MIN, -1, 0, 20, 21, MAX};
+        asked("accept", PEOPLE, needs, weeks, new int[] {MIN, -1, 0, 1, 2, MAX});
     }
 
     @Sentence(promise = 23, words = "they change nothing")
     static void grown() {
         int[] sums = {MIN, -1, 0, 9999, 10000, MAX};
-        asked("grown", sums, new int[] {MIN, -1, 0, 40, 41, MAX}, KINDS, KINDS, new int[] {-1, 0, 1, 2});
+        int[] weeks = {MIN, -1, 0, 40, 41, MAX};
+        asked("grown", sums, weeks, KINDS, KINDS, new int[] {-1, 0, 1, 2});
     }
 
     @Sentence(promise = 24, words = "they change nothing")
     static void years() {
-        asked("years", new int[] {MIN, -1, 0, 1, 60, 61, MAX}, new int[] {MIN, -1, 0, 1, MAX}, new int[] {MIN, -1, 0, 2, 3, MAX});
+        int[] weeks = {MIN, -1, 0, 1, 60, 61, MAX};
+        int[] seeds = {MIN, -1, 0, 1, MAX};
+        asked("years", weeks, seeds, new int[] {MIN, -1, 0, 2, 3, MAX});
     }
 
     @Sentence(promise = 26, words = "they change nothing")
